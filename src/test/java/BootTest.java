@@ -9,6 +9,8 @@ public final class BootTest {
         ramLeft();
         whatItStartsWith();
         allAsAtFirst();
+        ramOfNoBlock();
+        driversForget();
         Check.done();
     }
 
@@ -145,6 +147,47 @@ public final class BootTest {
         for (int what = 0; what < 12; what++) {
             Check.due("look(1, " + what + ") at first", k.look(1, what), look[what]);
         }
+    }
+
+    private static void ramOfNoBlock() {
+        GrantKernel k = Program.booted(0, 50, new Program().need(64).li(5, 4096).raw(Program.sw(5, 5, 28)).loop());
+        k.run(1);
+        Check.due("word(4124)", k.word(4124), 4096);
+        k.halt();
+        Check.due("RAM stays halted", k.word(4124), 4096);
+        k.flash(0, 0);
+        Check.due("boot() of none", k.boot(), 0);
+        Check.due("RAM of no BLOCK", k.word(4124), 0);
+    }
+
+    /** SUBSCRIBES first, and asks for an alarm and a BUTTON only in a later turn. */
+    private static void driversForget() {
+        Program p = new Program().call(1, 0, 0, 20, 0).call(1, 2, 0, 20, 0).call(2, 0, 2, 3, 0).call(2, 2, 1, 1, 0)
+            .loop();
+        GrantKernel k = Program.booted(0, 22, p);
+        k.run(2);
+        k.tick(3);
+        for (int i = 0; i < 5; i++) {
+            k.press(1, i % 2 == 0);
+        }
+        Check.due("queued", k.look(0, 5), 4);
+        Check.due("lost", k.look(0, 8), 2);
+        k.boot();
+        Check.due("lost behind boot()", k.look(0, 8), 0);
+        k.run(2);
+        k.boot();
+        k.run(1);
+        Check.due("GRANTS", k.look(0, 11), 5);
+        k.tick(5);
+        k.press(1, true);
+        Check.due("no alarm and no BUTTON is wanted behind boot()", k.look(0, 5), 0);
+        Program done = new Program().call(1, 2, 0, 20, 0).call(2, 2, 1, 1, 0).call(0, 1, 0, 0, 0);
+        GrantKernel d = Program.booted(0, 33, done);
+        d.run(1);
+        d.press(1, true);
+        Check.due("DONE", d.look(0, 9), 1);
+        d.boot();
+        Check.due("DONE behind boot()", d.look(0, 9), 0);
     }
 
     /** A PROCESS that leaves traces everywhere, then BOOT again, halted or not. */
