@@ -143,7 +143,8 @@ public final class GrantKernel {
     }
 
     public int word(int address) throws IllegalArgumentException {
-        if ((address & 3) != 0 || !Memory.inFlash(address) && !Memory.inRam(address)) {
+        boolean isThere = Memory.inFlash(address) || Memory.inRam(address);
+        if ((address & 3) != 0 || !isThere) {
             throw new IllegalArgumentException();
         }
         return memory.load(address, 4);
@@ -290,7 +291,7 @@ public final class GrantKernel {
             } else if (inRam(address)) {
                 whole = ram[(address - RAM_START) / 4];
             }
-            return (whole >>> 8 * (address & 3)) & mask(octets);
+            return (whole >>> (8 * (address & 3))) & mask(octets);
         }
 
         void store(int address, int octets, int value) {
@@ -304,7 +305,7 @@ public final class GrantKernel {
         }
 
         private static int mask(int octets) {
-            return octets >= 4 ? -1 : (1 << 8 * octets) - 1;
+            return octets >= 4 ? -1 : (1 << (8 * octets)) - 1;
         }
 
         void clearRam() {
@@ -405,7 +406,7 @@ public final class GrantKernel {
         }
 
         boolean grant(int driver, int octets) {
-            if ((granted & 1 << driver) != 0) {
+            if ((granted & (1 << driver)) != 0) {
                 return true;
             }
             if (low - octets < breakAt) {
@@ -543,7 +544,7 @@ public final class GrantKernel {
                 case LUI: return result(p, w, w & UPPER);
                 case AUIPC: return result(p, w, p.pc + (w & UPPER));
                 case JAL: return jump(p, w, p.pc + jumpOffset(w));
-                case JALR: return kind(w) == 0 && jump(p, w, p.x[source1(w)] + (w >> 20) & ~1);
+                case JALR: return kind(w) == 0 && jump(p, w, (p.x[source1(w)] + (w >> 20)) & ~1);
                 case BRANCH: return branch(p, w);
                 case LOAD: return load(p, w);
                 case STORE: return store(p, w);
@@ -554,19 +555,19 @@ public final class GrantKernel {
         }
 
         private static int kind(int w) {
-            return w >>> 12 & 7;
+            return (w >>> 12) & 7;
         }
 
         private static int source1(int w) {
-            return w >>> 15 & 31;
+            return (w >>> 15) & 31;
         }
 
         private static int source2(int w) {
-            return w >>> 20 & 31;
+            return (w >>> 20) & 31;
         }
 
         private static int target(int w) {
-            return w >>> 7 & 31;
+            return (w >>> 7) & 31;
         }
 
         private static boolean result(UserProcess p, int w, int value) {
@@ -582,15 +583,15 @@ public final class GrantKernel {
         }
 
         private static int jumpOffset(int w) {
-            return w >> 31 << 20 | w & 0xFF000 | w >>> 9 & 0x800 | w >>> 20 & 0x7FE;
+            return ((w >> 31) << 20) | (w & 0xFF000) | ((w >>> 9) & 0x800) | ((w >>> 20) & 0x7FE);
         }
 
         private static int branchOffset(int w) {
-            return w >> 31 << 12 | w << 4 & 0x800 | w >>> 20 & 0x7E0 | w >>> 7 & 0x1E;
+            return ((w >> 31) << 12) | ((w << 4) & 0x800) | ((w >>> 20) & 0x7E0) | ((w >>> 7) & 0x1E);
         }
 
         private static int storeOffset(int w) {
-            return w >> 25 << 5 | w >>> 7 & 31;
+            return ((w >> 25) << 5) | ((w >>> 7) & 31);
         }
 
         private static boolean branch(UserProcess p, int w) {
@@ -691,9 +692,9 @@ public final class GrantKernel {
         private static int product(int kind, int a, int b) {
             switch (kind) {
                 case 0: return a * b;
-                case 1: return (int) ((long) a * b >> 32);
-                case 2: return (int) (a * (b & UNSIGNED) >> 32);
-                default: return (int) ((a & UNSIGNED) * (b & UNSIGNED) >>> 32);
+                case 1: return (int) (((long) a * b) >> 32);
+                case 2: return (int) ((a * (b & UNSIGNED)) >> 32);
+                default: return (int) (((a & UNSIGNED) * (b & UNSIGNED)) >>> 32);
             }
         }
 
@@ -1066,7 +1067,7 @@ public final class GrantKernel {
         }
 
         boolean isPressed(int button) {
-            return (pressed & 1 << button) != 0;
+            return (pressed & (1 << button)) != 0;
         }
 
         void change(int button) {
@@ -1074,7 +1075,7 @@ public final class GrantKernel {
         }
 
         void tell(UserProcess p, int button) {
-            if ((wants[p.number] & 1 << button) != 0) {
+            if ((wants[p.number] & (1 << button)) != 0) {
                 p.upcall(UPCALL, button, isPressed(button) ? 1 : 0, 0);
             }
         }

@@ -98,8 +98,9 @@ public final class ConsoleTest {
     /** What is ALLOWED may be another thing while it is written. */
     private static void allowedThen() {
         new Script("ALLOWED then")
-            .raw(Program.lui(5, 1), Program.addi(6, 0, 'a'), Program.sb(5, 6, 0), Program.addi(6, 0, -1),
-                Program.sb(5, 6, 1), Program.addi(6, 0, 'c'), Program.sb(5, 6, 2), Program.sb(5, 6, 9), Program.sb(5, 6, 10))
+            .raw(Program.lui(5, 1), Program.addi(6, 0, 'a'), Program.sb(5, 6, 0))
+            .raw(Program.addi(6, 0, -1), Program.sb(5, 6, 1))
+            .raw(Program.addi(6, 0, 'c'), Program.sb(5, 6, 2), Program.sb(5, 6, 9), Program.sb(5, 6, 10))
             .ok2(0, 0, 4, 1, 1, TEXT, 4)
             .ok2(0, 0, 1, 1, 1, Script.HANDLER, 0)
             .ok(2, 1, 1, 4, 0)

@@ -166,7 +166,7 @@ public final class InstructionsTest {
     private static void branch(String name, int f3, IntBinaryOperator taken) {
         for (int a : VALUES) {
             for (int b : VALUES) {
-                Program p = new Program().li(5, a).li(6, b).raw(Program.typeB(f3, 5, 6, -16));
+                Program p = new Program().li(5, a).li(7, b).raw(Program.typeB(f3, 5, 7, -16));
                 GrantKernel k = Program.booted(0, 5, p);
                 k.run(1);
                 Check.due(name + " " + a + ", " + b, k.register(0, 32), taken.applyAsInt(a, b) != 0 ? 20 : 40);

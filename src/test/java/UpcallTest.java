@@ -110,7 +110,7 @@ public final class UpcallTest {
     }
 
     private static void functionNotOwn() {
-        int[] functions = {2, 4096, -1, 24 + 2};
+        int[] functions = {2, 4096, -1, 24 + 1, 24 + 2};
         for (int f : functions) {
             Program p = new Program().need(128).call(1, 2, 0, f, 0).call(2, 2, 1, 0, 0).call(0, 1, 0, 0, 0);
             GrantKernel k = Program.booted(0, 50, p);
