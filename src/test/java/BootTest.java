@@ -11,6 +11,14 @@ public final class BootTest {
         allAsAtFirst();
         ramOfNoBlock();
         driversForget();
+        needs();
+        entries();
+        noHeaderEndsIt();
+        flagsEven();
+        ramJustEnough();
+        fifth();
+        lastWords();
+        firstTurnBehindBoot();
         Check.done();
     }
 
@@ -231,5 +239,139 @@ public final class BootTest {
         Check.due("FAULTS behind boot()", f.look(0, 7), 0);
         f.run(60);
         Check.due("POLICY stays, and its count begins anew", f.look(0, 6), 3);
+    }
+
+    /** HEADER: NEED is 64..2048, a multiple of 16. */
+    private static void needs() {
+        for (int need = 0; need <= 2112; need++) {
+            boolean fits = need == 64 || need == 80 || need > 64 && need < 2048 && need % 16 == 0 || need == 2048;
+            if (need < 100 || need > 2000) {
+                header(fits ? 1 : 0, 6, 1, need, 20);
+            }
+        }
+        header(0, 6, 1, 4096, 20);
+        header(0, 6, 1, Integer.MIN_VALUE, 20);
+        header(0, 6, 1, Integer.MIN_VALUE + 64, 20);
+        header(0, 6, 1, -16, 20);
+        header(0, 6, 1, Integer.MAX_VALUE - 15, 20);
+    }
+
+    /** HEADER: ENTRY is a multiple of 4, 20 or more, below 4 SIZE. */
+    private static void entries() {
+        for (int size = 5; size <= 9; size++) {
+            for (int entry = -4; entry <= 4 * size + 4; entry++) {
+                boolean fits = entry >= 20 && entry < 4 * size && entry % 4 == 0;
+                header(fits ? 1 : 0, size, 1, 64, entry);
+            }
+        }
+        header(1, 512, 1, 64, 2044);
+        header(0, 512, 1, 64, 2048);
+        header(0, 6, 1, 64, Integer.MIN_VALUE);
+        header(0, 6, 1, 64, Integer.MIN_VALUE + 20);
+    }
+
+    private static void write(GrantKernel k, int at, int... words) {
+        for (int i = 0; i < words.length; i++) {
+            k.flash(at + i, words[i]);
+        }
+    }
+
+    /** BOOT: as long as a HEADER stands there, even if it would be no PROCESS; then it is over. */
+    private static void noHeaderEndsIt() {
+        int[][] seconds = {{6, 0, 64, 20}, {6, 0, 48, 20}, {6, 0, 72, 20}, {6, 0, 2064, 20}, {6, 0, 64, 16},
+            {6, 0, 64, 24}, {6, 0, 64, 22}, {5, 0, 64, 20}};
+        for (int i = 0; i < seconds.length; i++) {
+            GrantKernel k = new GrantKernel();
+            int second = new Program().need(64).loop().into(k, 0);
+            int[] s = seconds[i];
+            write(k, second, s[0], s[1], s[2], s[3], s[0] ^ s[1] ^ s[2] ^ s[3]);
+            new Program().need(64).loop().into(k, second + s[0]);
+            Check.due("boot() behind the HEADER " + i, k.boot(), i == 0 ? 2 : 1);
+        }
+        GrantKernel xor = new GrantKernel();
+        write(xor, 0, 6, 0, 64, 20, 6 ^ 64 ^ 20 ^ 1);
+        new Program().need(64).loop().into(xor, 6);
+        Check.due("boot() behind an exclusive or that is not 0", xor.boot(), 0);
+    }
+
+    /** BOOT: with even FLAGS it is no PROCESS, takes no RAM and no number; only the lowest bit counts. */
+    private static void flagsEven() {
+        int[] flags = {0, 2, -2, Integer.MIN_VALUE, 0x7FFFFFFE, 1, 3, -1, Integer.MIN_VALUE + 1, Integer.MAX_VALUE};
+        for (int f : flags) {
+            GrantKernel k = new GrantKernel();
+            int at = new Program().need(128).flags(f).loop().into(k, 0);
+            new Program().need(64).loop().into(k, at);
+            boolean odd = f % 2 != 0;
+            Check.due("boot() with FLAGS " + f, k.boot(), odd ? 2 : 1);
+            Check.due("BLOCK of the last with FLAGS " + f, k.look(odd ? 1 : 0, 2), odd ? 4224 : 4096);
+            Check.due("HEADER of 0 with FLAGS " + f, k.look(0, 1), odd ? 0 : 24);
+        }
+    }
+
+    /** BOOT: NEED octets of RAM are left, or 16 too few; what is behind may still fit. */
+    private static void ramJustEnough() {
+        int[][] needs = {{2048, 2048}, {2048, 1984, 64}, {2048, 2000, 64}, {2048, 1984, 80}, {2048, 1984, 80, 64},
+            {2048, 2048, 64}, {2048, 2032, 64, 64}, {1024, 1024, 1024, 1024}, {1024, 1024, 1024, 1040}};
+        int[] due = {2, 3, 2, 2, 3, 2, 2, 4, 3};
+        int[] ends = {8192, 8192, 8144, 8128, 8192, 8192, 8176, 8192, 7168};
+        for (int i = 0; i < needs.length; i++) {
+            GrantKernel k = new GrantKernel();
+            int at = 0;
+            for (int need : needs[i]) {
+                at = new Program().need(need).loop().into(k, at);
+            }
+            Check.due("boot() with the NEEDS " + i, k.boot(), due[i]);
+            Check.due("LOW of the last with the NEEDS " + i, k.look(due[i] - 1, 4), ends[i]);
+        }
+    }
+
+    /** BOOT: fewer than 4 PROCESSES; those of even FLAGS or too great a NEED do not count. */
+    private static void fifth() {
+        for (int many = 0; many <= 6; many++) {
+            GrantKernel k = new GrantKernel();
+            int at = new Program().flags(2).need(64).loop().into(k, 0);
+            for (int i = 0; i < many; i++) {
+                at = new Program().need(64).loop().into(k, at);
+                at = new Program().flags(4).need(2048).loop().into(k, at);
+            }
+            int due = Math.min(many, 4);
+            Check.due("boot() with " + many, k.boot(), due);
+            Check.due("count(0) with " + many, k.count(0), due);
+            Check.due("halt() with " + many, k.halt(), due);
+            if (due > 0) {
+                Check.due("HEADER of the last of " + many, k.look(due - 1, 1), 24 + 48 * (due - 1));
+            }
+        }
+    }
+
+    /** HEADER: five WORDS, the last of which may not lie beyond FLASH. */
+    private static void lastWords() {
+        for (int at = 500; at <= 512; at++) {
+            GrantKernel k = new GrantKernel();
+            write(k, 0, at, 1, 64, 20, at ^ 1 ^ 64 ^ 20);
+            int left = 512 - at;
+            int[] last = {left, 1, 64, 20, left ^ 1 ^ 64 ^ 20};
+            for (int i = 0; i < Math.min(5, left); i++) {
+                k.flash(at + i, last[i]);
+            }
+            Check.due("boot() with a HEADER of all that is left at " + at, k.boot(), at <= 506 ? 2 : 1);
+            if (at <= 506) {
+                Check.due("its last WORD is OWN: run(2)", k.run(2), 2);
+                Check.due("its HEADER", k.look(1, 1), 4 * at);
+            }
+        }
+    }
+
+    /** TURN: first 0, also behind another boot(). */
+    private static void firstTurnBehindBoot() {
+        GrantKernel k = Program.booted(0, 3, new Program().need(64).loop(), new Program().need(64).loop());
+        k.run(1);
+        Check.due("the first turn", k.count(6), 0);
+        k.boot();
+        Check.due("no turn yet", k.count(6), -1);
+        k.run(1);
+        Check.due("the first turn behind boot()", k.count(6), 0);
+        k.run(1);
+        Check.due("the second turn behind boot()", k.count(6), 1);
     }
 }

@@ -20,6 +20,10 @@ public final class InstructionsTest {
         stores();
         otherWords();
         zeroRegister();
+        nextToTheEncodings();
+        divisionEdges();
+        shiftEdges();
+        nothingIsDone();
         Check.done();
     }
 
@@ -289,5 +293,130 @@ public final class InstructionsTest {
         Check.due("run(1)", k.run(1), 9);
         Check.due("x0", k.register(0, 0), 0);
         Check.due("READY", k.look(0, 0), GrantKernel.READY);
+    }
+
+    private static final int OPCODE = 0x7F, KIND = 0x707F, WHOLE = 0xFE00707F;
+
+    /** The encodings as the manual of RV32IM tells them: which bits are fixed, and what they are. */
+    private static final int[][] ENCODINGS = {
+        {OPCODE, 0x37}, {OPCODE, 0x17}, {OPCODE, 0x6F}, {KIND, 0x67},
+        {KIND, 0x0063}, {KIND, 0x1063}, {KIND, 0x4063}, {KIND, 0x5063}, {KIND, 0x6063}, {KIND, 0x7063},
+        {KIND, 0x0003}, {KIND, 0x1003}, {KIND, 0x2003}, {KIND, 0x4003}, {KIND, 0x5003},
+        {KIND, 0x0023}, {KIND, 0x1023}, {KIND, 0x2023},
+        {KIND, 0x0013}, {KIND, 0x2013}, {KIND, 0x3013}, {KIND, 0x4013}, {KIND, 0x6013}, {KIND, 0x7013},
+        {WHOLE, 0x1013}, {WHOLE, 0x5013}, {WHOLE, 0x40005013},
+        {WHOLE, 0x0033}, {WHOLE, 0x40000033}, {WHOLE, 0x1033}, {WHOLE, 0x2033}, {WHOLE, 0x3033}, {WHOLE, 0x4033},
+        {WHOLE, 0x5033}, {WHOLE, 0x40005033}, {WHOLE, 0x6033}, {WHOLE, 0x7033},
+        {WHOLE, 0x02000033}, {WHOLE, 0x02001033}, {WHOLE, 0x02002033}, {WHOLE, 0x02003033}, {WHOLE, 0x02004033},
+        {WHOLE, 0x02005033}, {WHOLE, 0x02006033}, {WHOLE, 0x02007033},
+        {-1, 0x73},
+    };
+
+    private static boolean isInstruction(int w) {
+        for (int[] e : ENCODINGS) {
+            if ((w & e[0]) == e[1]) {
+                return true;
+            }
+        }
+        return false;
+    }
+
+    /** Loads and stores may FAULT for other reasons; jumps are done, wherever they go. */
+    private static void judged(int w) {
+        boolean toMemory = (w & OPCODE) == 0x03 || (w & OPCODE) == 0x23;
+        if (isInstruction(w) && toMemory) {
+            return;
+        }
+        GrantKernel k = Program.booted(0, 1, new Program().raw(w));
+        k.run(1);
+        Check.due("the WORD " + Integer.toHexString(w), k.look(0, 7), isInstruction(w) ? 0 : 1);
+    }
+
+    /** FAULTS: another WORD; those that differ by one bit from an instruction, and those that differ by two. */
+    private static void nextToTheEncodings() {
+        int[] fields = {0, 0x00A50513, 0x01FF8F80, 0xFFFFFFFF};
+        for (int[] e : ENCODINGS) {
+            for (int f : fields) {
+                int w = e[1] | f & ~e[0];
+                judged(w);
+                for (int bit = 0; bit < 32; bit++) {
+                    judged(w ^ 1 << bit);
+                    judged(w ^ 1 << bit ^ 1 << (bit + 13) % 32);
+                }
+            }
+        }
+    }
+
+    private static int of(int f7, int f3, int a, int b) {
+        GrantKernel k = Program.booted(0, 5, new Program().li(5, a).li(6, b).raw(Program.typeR(f7, f3, 7, 5, 6)));
+        k.run(1);
+        Check.due("no FAULT", k.look(0, 7), 0);
+        return k.register(0, 7);
+    }
+
+    /** 'a division by 0 gives all 1s (the remainder: the first one), the least int by -1 itself (0)'. */
+    private static void divisionEdges() {
+        int least = Integer.MIN_VALUE;
+        int[] firsts = {0, 1, -1, least, Integer.MAX_VALUE};
+        for (int a : firsts) {
+            Check.due("div " + a + ", 0", of(1, 4, a, 0), -1);
+            Check.due("divu " + a + ", 0", of(1, 5, a, 0), -1);
+            Check.due("rem " + a + ", 0", of(1, 6, a, 0), a);
+            Check.due("remu " + a + ", 0", of(1, 7, a, 0), a);
+        }
+        Check.due("div least, -1", of(1, 4, least, -1), least);
+        Check.due("rem least, -1", of(1, 6, least, -1), 0);
+        Check.due("divu least, -1", of(1, 5, least, -1), 0);
+        Check.due("remu least, -1", of(1, 7, least, -1), least);
+        Check.due("div -7, 2", of(1, 4, -7, 2), -3);
+        Check.due("rem -7, 2", of(1, 6, -7, 2), -1);
+        Check.due("div 7, -2", of(1, 4, 7, -2), -3);
+        Check.due("rem 7, -2", of(1, 6, 7, -2), 1);
+        Check.due("mulh least, least", of(1, 1, least, least), 0x40000000);
+        Check.due("mulhsu least, -1", of(1, 2, least, -1), least);
+        Check.due("mulhsu -1, least", of(1, 2, -1, least), -1);
+        Check.due("mulhu -1, -1", of(1, 3, -1, -1), -2);
+    }
+
+    /** By more than 31 in a register: its lowest five bits count. */
+    private static void shiftEdges() {
+        int[] by = {0, 31, 32, 63, 64, -1, -32, Integer.MIN_VALUE, Integer.MAX_VALUE};
+        int[] low = {0, 31, 0, 31, 0, 31, 0, 0, 31};
+        int[] values = {1, -1, Integer.MIN_VALUE, 0x40000001};
+        for (int a : values) {
+            for (int i = 0; i < by.length; i++) {
+                boolean far = low[i] == 31;
+                Check.due("sll " + a + ", " + by[i], of(0, 1, a, by[i]), far ? (a % 2 != 0 ? Integer.MIN_VALUE : 0) : a);
+                Check.due("srl " + a + ", " + by[i], of(0, 5, a, by[i]), far ? (a < 0 ? 1 : 0) : a);
+                Check.due("sra " + a + ", " + by[i], of(32, 5, a, by[i]), far ? (a < 0 ? -1 : 0) : a);
+            }
+        }
+    }
+
+    /** 'nothing of it is done then': no register, no memory, not PC. */
+    private static void nothingIsDone() {
+        int[] faults = {0, -1, 0x00100073, 0x0000000F, Program.typeI(0x67, 1, 5, 5, 0), Program.typeB(2, 0, 0, -8),
+            Program.load(3, 5, 11, 0), Program.lw(5, 11, 1), Program.lw(5, 11, -4), Program.load(0, 5, 0, 19),
+            Program.load(5, 5, 11, 3), Program.lw(5, 13, 0), Program.sw(13, 11, 0), Program.sw(11, 11, 2),
+            Program.typeS(1, 11, 11, 1), Program.typeS(3, 11, 11, 0), Program.sb(11, 11, -1),
+            Program.typeR(64, 0, 5, 11, 11), Program.typeI(0x13, 1, 5, 11, 32), 0x73 | 5 << 7};
+        for (int w : faults) {
+            GrantKernel k = Program.booted(0, 1, new Program().need(64).raw(w, Program.addi(0, 0, 0)));
+            int[] before = new int[33];
+            for (int r = 0; r <= 32; r++) {
+                before[r] = k.register(0, r);
+            }
+            k.run(1);
+            String name = "the WORD " + Integer.toHexString(w);
+            Check.due(name + ": FAULTED", k.look(0, 0), GrantKernel.FAULTED);
+            for (int r = 0; r <= 32; r++) {
+                Check.due(name + ": register " + r, k.register(0, r), before[r]);
+            }
+            for (int at = 4096; at < 4096 + 80; at += 4) {
+                Check.due(name + ": word(" + at + ")", k.word(at), 0);
+            }
+            Check.due(name + ": BREAK", k.look(0, 3), 4128);
+            Check.due(name + ": LOW", k.look(0, 4), 4160);
+        }
     }
 }

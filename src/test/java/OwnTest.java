@@ -13,6 +13,12 @@ public final class OwnTest {
         wholeBlockCleared();
         negativeOffset();
         nothingSubscribedOrAllowed();
+        offsets();
+        breakAtTheBeginning();
+        breakAtTheEnd();
+        breakAtLow();
+        takenFromWithin();
+        endOfFlash();
         Check.done();
     }
 
@@ -249,5 +255,129 @@ public final class OwnTest {
         k.run(5);
         Check.due("EXIT 1 five times", k.look(0, 6), 6);
         Check.due("no FAULTS", k.look(0, 7), 0);
+    }
+
+    private static void offset(boolean own, int f3, int base, int offset) {
+        GrantKernel loads = among(base, Program.load(f3, 7, 5, offset));
+        String name = f3 + " at " + base + " and " + offset;
+        Check.due("load " + name, loads.look(1, 0), own ? GrantKernel.READY : GrantKernel.FAULTED);
+        GrantKernel stores = among(base, Program.typeS(f3, 5, 7, offset));
+        boolean inBlock = own && base + offset >= 4096;
+        Check.due("store " + name, stores.look(1, 0), inBlock ? GrantKernel.READY : GrantKernel.FAULTED);
+        if (inBlock) {
+            Check.due("stored " + name, stores.word(base + offset & ~3), 77 << 8 * (base + offset & 3));
+        }
+    }
+
+    /** OWN: it is the sum that counts, which may wrap round, and not the register before it. */
+    private static void offsets() {
+        for (int f3 = 0; f3 < 3; f3++) {
+            int size = 1 << f3;
+            offset(true, f3, BLOCK - 4, 4);
+            offset(true, f3, BREAK, -size);
+            offset(false, f3, BLOCK, -size);
+            offset(false, f3, BREAK - size, size);
+            offset(true, f3, BLOCK - 2047, 2047);
+            offset(true, f3, BLOCK + 2048, -2048);
+            offset(true, f3, -4, CODE + 4);
+            offset(false, f3, -4, CODE + 4 - size);
+            offset(true, f3, CODE + 2048, -2048);
+            offset(false, f3, Integer.MAX_VALUE, 1);
+            offset(false, f3, Integer.MIN_VALUE, -1);
+            offset(false, f3, 0, -4);
+            offset(false, f3, -4, 4);
+            offset(size == 1, f3, BLOCK + 4, 1);
+            offset(size == 1, f3, BLOCK + 4, -1);
+            offset(size < 4, f3, BLOCK + 1, 1);
+            offset(size < 4, f3, BLOCK + 3, -1);
+            offset(true, f3, BLOCK + 1, 3);
+        }
+    }
+
+    /** A PROCESS whose BREAK is moved there, after these calls; then one load or store. */
+    private static GrantKernel withBreak(int breakAt, boolean granted, int instruction, int address) {
+        Program p = new Program().need(64);
+        int calls = granted ? 2 : 1;
+        if (granted) {
+            p.call(2, 3, 1, 0, 0);
+        }
+        p.call(5, 0, breakAt, 0, 0).li(5, address).li(7, 77).raw(instruction).loop();
+        GrantKernel k = Program.booted(0, 11 * calls + 5, p, new Program().need(64).loop());
+        k.run(1);
+        Check.due("the BREAK", k.look(0, 3), breakAt);
+        return k;
+    }
+
+    private static void withBreak(boolean own, int breakAt, boolean granted, int f3, int address) {
+        String name = " " + f3 + " at " + address + " with the BREAK " + breakAt;
+        int due = own ? GrantKernel.READY : GrantKernel.FAULTED;
+        int[] instructions = {Program.load(f3, 7, 5, 0), Program.typeS(f3, 5, 7, 0)};
+        for (int i = 0; i < 2; i++) {
+            GrantKernel k = withBreak(breakAt, granted, instructions[i], address);
+            Check.due((i == 0 ? "load" : "store") + name, k.look(0, 0), due);
+        }
+    }
+
+    /** OWN: of the BLOCK up to the BREAK nothing is left. */
+    private static void breakAtTheBeginning() {
+        for (int f3 = 0; f3 < 3; f3++) {
+            withBreak(false, 4096, false, f3, 4096);
+            withBreak(false, 4096, false, f3, 4100);
+            withBreak(true, 4096 + (1 << f3), false, f3, 4096);
+            withBreak(false, 4096 + (1 << f3), false, f3, 4096 + (1 << f3));
+        }
+    }
+
+    private static void breakAtTheEnd() {
+        for (int f3 = 0; f3 < 3; f3++) {
+            int size = 1 << f3;
+            withBreak(true, 4160, false, f3, 4096);
+            withBreak(true, 4160, false, f3, 4160 - size);
+            withBreak(false, 4160, false, f3, 4160);
+            withBreak(false, 4159, false, f3, 4160 - size);
+        }
+    }
+
+    /** OWN: what is granted is not. */
+    private static void breakAtLow() {
+        for (int f3 = 0; f3 < 3; f3++) {
+            int size = 1 << f3;
+            withBreak(true, 4152, true, f3, 4152 - size);
+            withBreak(false, 4152, true, f3, 4152);
+            withBreak(false, 4152, true, f3, 4160 - size);
+        }
+    }
+
+    /** FAULTS: one taken that is not at a multiple of its size, though an instruction could be read there. */
+    private static void takenFromWithin() {
+        int[] words = {0x13, 0x1313, 0x00130013, 0x13000013};
+        for (int within = 0; within < 4; within++) {
+            Program p = new Program().need(128).raw(words[within], Program.addi(0, 0, 0)).entryHere()
+                .call(1, 2, 0, 20 + within, 0).call(2, 2, 1, 0, 0).call(0, 1, 0, 0, 0);
+            GrantKernel k = Program.booted(0, 33, p);
+            k.run(1);
+            k.press(0, true);
+            Check.due("PC " + within + " octets within", k.register(0, 32), 20 + within);
+            k.ways(0, 1);
+            k.run(1);
+            Check.due("taken from " + within + " octets within", k.look(0, 0),
+                within == 0 ? GrantKernel.READY : GrantKernel.FAULTED);
+            Check.due("PC behind it", k.register(0, 32), within == 0 ? 24 : 20 + within);
+        }
+    }
+
+    /** OWN: behind the last WORD of FLASH there is nothing to take. */
+    private static void endOfFlash() {
+        GrantKernel k = new GrantKernel();
+        int[] header = {512, 1, 64, 2044, 512 ^ 1 ^ 64 ^ 2044};
+        for (int i = 0; i < 5; i++) {
+            k.flash(i, header[i]);
+        }
+        k.flash(511, Program.lw(7, 0, 2044));
+        k.boot();
+        Check.due("the last WORD, and one that FAULTS", k.run(1), 2);
+        Check.due("it could load itself", k.register(0, 7), Program.lw(7, 0, 2044));
+        Check.due("FAULTED", k.look(0, 0), GrantKernel.FAULTED);
+        Check.due("PC behind FLASH", k.register(0, 32), 2048);
     }
 }

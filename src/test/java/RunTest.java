@@ -6,6 +6,10 @@ public final class RunTest {
         endsWhereNoneIsReady();
         turnEndsEarly();
         startsAgainEndsTurn();
+        sliceAndTurns();
+        noLongerReady();
+        readyAgain();
+        endsWithinRun();
         Check.done();
     }
 
@@ -87,5 +91,71 @@ public final class RunTest {
         GrantKernel exact = Program.booted(0, 11, again, counting());
         Check.due("run(2)", exact.run(2), 22);
         Check.due("the other had its turn", exact.register(1, 5), 6);
+    }
+
+    /** SLICE 1 and 50, n 1 and 60. */
+    private static void sliceAndTurns() {
+        int[] slices = {1, 2, 49, 50};
+        int[] turns = {1, 2, 59, 60};
+        for (int slice : slices) {
+            for (int n : turns) {
+                GrantKernel k = Program.booted(0, slice, counting(), counting());
+                Check.due("run(" + n + ") with SLICE " + slice, k.run(n), slice * n);
+                Check.due("count(1)", k.count(1), slice * n);
+                Check.due("count(6)", k.count(6), (n - 1) % 2);
+            }
+        }
+    }
+
+    /** A turn ends as soon as the PROCESS is no longer READY, also with the last instruction of its SLICE. */
+    private static void noLongerReady() {
+        int[][] ends = {{0, 1}, {6, 0}, {6, 1}};
+        int[] stands = {GrantKernel.YIELDED, GrantKernel.STOPPED, GrantKernel.READY};
+        for (int i = 0; i < ends.length; i++) {
+            for (int slice = 10; slice <= 12; slice++) {
+                Program p = new Program().need(64).call(ends[i][0], ends[i][1], 0, 0, 0).loop();
+                GrantKernel k = Program.booted(0, slice, p, counting());
+                String name = " of class " + ends[i][0] + " " + ends[i][1] + " with SLICE " + slice;
+                Check.due("run(1)" + name, k.run(1), Math.min(slice, 11));
+                Check.due("stands" + name, k.look(0, 0), slice < 11 ? GrantKernel.READY : stands[i]);
+                Check.due("system calls" + name, k.look(0, 10), slice < 11 ? 0 : 1);
+                Check.due("the other's turn" + name, k.run(1), slice);
+                Check.due("count(6)" + name, k.count(6), 1);
+            }
+        }
+    }
+
+    /** One that is READY again comes next behind the last that had a turn. */
+    private static void readyAgain() {
+        Program sleeper = new Program().need(128).call(1, 2, 0, 20, 0).call(2, 2, 1, 0, 0).call(0, 1, 0, 0, 0).loop();
+        GrantKernel k = Program.booted(0, 33, counting(), sleeper, counting());
+        k.run(3);
+        Check.due("1 sleeps", k.look(1, 0), GrantKernel.YIELDED);
+        int[] asleep = {0, 2, 0};
+        for (int want : asleep) {
+            k.run(1);
+            Check.due("the turn is of", k.count(6), want);
+        }
+        k.press(0, true);
+        int[] awake = {1, 2, 0};
+        k.ways(0, 1);
+        for (int want : awake) {
+            k.run(1);
+            Check.due("the turn is of", k.count(6), want);
+        }
+    }
+
+    /** 'it ends where none is READY': the turns that are left are not had. */
+    private static void endsWithinRun() {
+        Program yields = new Program().need(64).call(0, 1, 0, 0, 0);
+        GrantKernel k = Program.booted(9, 50, yields, new Program().need(64).raw(0));
+        Check.due("run(60)", k.run(60), 11 + 10);
+        Check.due("run(1)", k.run(1), 0);
+        Check.due("count(1)", k.count(1), 21);
+        Check.due("count(6)", k.count(6), 1);
+        k.tick(60);
+        k.press(0, true);
+        Check.due("run(60) again", k.run(60), 0);
+        Check.due("0 is YIELDED", k.look(0, 0), GrantKernel.YIELDED);
     }
 }

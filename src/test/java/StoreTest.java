@@ -6,6 +6,10 @@ public final class StoreTest {
         eachOfItsOwn();
         goneAmongOthers();
         outlivesStarts();
+        seventhKey();
+        anyKeyAnyValue();
+        keysOfFour();
+        goneIsNew();
         Check.done();
     }
 
@@ -102,5 +106,72 @@ public final class StoreTest {
         Check.due("one key", k.count(5), 1);
         k.boot();
         Check.due("BOOT takes it", k.count(5), 0);
+    }
+
+    /** STORE 2: NO 9 if it is new and there are 6; one that is there gets its value; one that is gone makes room. */
+    private static void seventhKey() {
+        Script s = new Script("the seventh key");
+        for (int i = 0; i < 5; i++) {
+            s.ok(2, 3, 2, 10 + i, i);
+        }
+        s.ok(2, 3, 2, 15, 5).count(5, 6)
+            .no(9, 2, 3, 2, 16, 6).count(5, 6)
+            .no(9, 2, 3, 2, 0, 0).count(5, 6)
+            .no(1, 2, 3, 1, 16, 0).no(1, 2, 3, 3, 16, 0).count(5, 6)
+            .ok(2, 3, 2, 10, 100).ok(2, 3, 2, 15, 105).count(5, 6)
+            .ok1(100, 2, 3, 1, 10, 0).ok1(105, 2, 3, 1, 15, 0).ok1(4, 2, 3, 1, 14, 0)
+            .ok(2, 3, 3, 15, 0).count(5, 5)
+            .ok(2, 3, 2, 16, 6).count(5, 6)
+            .no(9, 2, 3, 2, 15, 6)
+            .play();
+    }
+
+    /** Any int is a key, and any int a value: 0 and -1 too are keys that are there or not. */
+    private static void anyKeyAnyValue() {
+        int[] all = {0, 1, -1, Integer.MIN_VALUE, Integer.MAX_VALUE};
+        for (int key : all) {
+            for (int value : all) {
+                new Script("key " + key + ", value " + value)
+                    .no(1, 2, 3, 1, key, 9)
+                    .no(1, 2, 3, 3, key, 9).count(5, 0)
+                    .ok(2, 3, 2, key, value).count(5, 1)
+                    .ok1(value, 2, 3, 1, key, 9)
+                    .ok(2, 3, 3, key, 9).count(5, 0)
+                    .no(1, 2, 3, 1, key, 9)
+                    .no(1, 2, 3, 3, key, 9)
+                    .play();
+            }
+        }
+    }
+
+    /** Each of four PROCESSES has a key 1 of its own; the seventh key in all is one too many. */
+    private static void keysOfFour() {
+        Program[] all = new Program[4];
+        for (int p = 0; p < 4; p++) {
+            all[p] = new Program().need(64).call(2, 3, 2, 1, 70 + p).call(2, 3, 2, 2, 80 + p).call(2, 3, 1, 1, 0)
+                .loop();
+        }
+        GrantKernel k = Program.booted(0, Program.CALL_WORDS, all);
+        k.run(4);
+        Check.due("four keys", k.count(5), 4);
+        k.run(4);
+        Check.due("six keys", k.count(5), 6);
+        int[] due = {128, 128, 0, 0};
+        for (int p = 0; p < 4; p++) {
+            Check.due("key 2 of " + p, k.register(p, 10), due[p]);
+        }
+        Check.due("NO 9 of 2", k.register(2, 11), 9);
+        k.run(4);
+        for (int p = 0; p < 4; p++) {
+            Check.due("key 1 of " + p, k.register(p, 11), 70 + p);
+        }
+    }
+
+    private static void goneIsNew() {
+        new Script("a key that is gone is new again")
+            .ok(2, 3, 2, 1, 5).ok(2, 3, 3, 1, 0).ok(2, 3, 2, 1, 6).count(5, 1)
+            .ok1(6, 2, 3, 1, 1, 0)
+            .ok(2, 3, 3, 1, 0).no(1, 2, 3, 3, 1, 0).count(5, 0)
+            .play();
     }
 }

@@ -15,6 +15,15 @@ public final class SystemCallsTest {
         grantsAgainstTheBreak();
         grantBeforeTheNumber();
         countedCalls();
+        numbers();
+        allowWraps();
+        allowAgainstTheBreak();
+        breakEdges();
+        grantThatJustFits();
+        grantsOfTwo();
+        grantAnew();
+        othersStay();
+        answersIntoTheFour();
         Check.done();
     }
 
@@ -247,5 +256,192 @@ public final class SystemCallsTest {
         k.run(1);
         Check.due("system calls", k.look(0, 10), 3);
         Check.due("PC", k.register(0, 32), 36);
+    }
+
+    /** SUBSCRIBE, ALLOW: number 0 or 1, else NO2 6 c d, and what was there stays. */
+    private static void numbers() {
+        int[] wrong = {-1, 2, 3, Integer.MIN_VALUE, Integer.MAX_VALUE};
+        int[] classes = {1, 3, 4};
+        for (int callClass : classes) {
+            for (int driver = 0; driver < 4; driver++) {
+                Script s = new Script("numbers of class " + callClass + ", driver " + driver)
+                    .ok2(0, 0, callClass, driver, 0, BLOCK, 1)
+                    .ok2(0, 0, callClass, driver, 1, BLOCK + 1, 2);
+                for (int b : wrong) {
+                    s.no2(6, callClass, driver, b, BLOCK + 2, 3);
+                }
+                s.ok2(BLOCK, 1, callClass, driver, 0, 0, 0)
+                    .ok2(BLOCK + 1, 2, callClass, driver, 1, 0, 0)
+                    .play();
+            }
+        }
+    }
+
+    /** ALLOW: an end that wraps round makes nothing OWN; and what is refused leaves what was there. */
+    private static void allowWraps() {
+        for (int callClass = 3; callClass <= 4; callClass++) {
+            new Script("ALLOW that wraps, class " + callClass)
+                .ok2(0, 0, callClass, 0, 0, BLOCK + 5, 6)
+                .no2(6, callClass, 0, 0, BLOCK + 64, -63)
+                .no2(6, callClass, 0, 0, BLOCK + 64, -64)
+                .no2(6, callClass, 0, 0, BLOCK + 127, -1)
+                .no2(6, callClass, 0, 0, 40, -20)
+                .no2(6, callClass, 0, 0, -4, 28)
+                .no2(6, callClass, 0, 0, -1, 2)
+                .no2(6, callClass, 0, 0, Integer.MIN_VALUE, Integer.MIN_VALUE)
+                .no2(6, callClass, 0, 0, Integer.MIN_VALUE + BLOCK, 1)
+                .no2(6, callClass, 0, 0, Integer.MAX_VALUE, 1)
+                .no2(6, callClass, 0, 0, BLOCK, Integer.MAX_VALUE)
+                .no2(6, callClass, 0, 0, 8191, 1)
+                .no2(6, callClass, 0, 0, 8192, 1)
+                .no2(6, callClass, 0, 0, 2048, 1)
+                .ok2(BLOCK + 5, 6, callClass, 0, 0, -1, 0)
+                .ok2(-1, 0, callClass, 0, 0, Integer.MIN_VALUE, 0)
+                .ok2(Integer.MIN_VALUE, 0, callClass, 0, 0, 0, 0)
+                .play();
+        }
+    }
+
+    /** ALLOW: OWN is up to the BREAK as it is then; what is above it, granted or not, is not. */
+    private static void allowAgainstTheBreak() {
+        for (int callClass = 3; callClass <= 4; callClass++) {
+            new Script("ALLOW against the BREAK, class " + callClass).need(64)
+                .ok2(0, 0, callClass, 3, 0, BLOCK, 32)
+                .no2(6, callClass, 3, 0, BLOCK, 33)
+                .ok(5, 0, BLOCK + 56, 0, 0)
+                .ok2(BLOCK, 32, callClass, 3, 0, BLOCK, 56)
+                .no2(6, callClass, 3, 0, BLOCK, 57)
+                .no2(6, callClass, 3, 0, BLOCK + 56, 1)
+                .no2(6, callClass, 3, 0, BLOCK + 63, 1)
+                .ok2(BLOCK, 56, callClass, 3, 0, BLOCK + 55, 1)
+                .ok(5, 0, BLOCK + 1, 0, 0)
+                .ok2(BLOCK + 55, 1, callClass, 3, 0, BLOCK, 1)
+                .no2(6, callClass, 3, 0, BLOCK, 2)
+                .ok(5, 0, BLOCK, 0, 0)
+                .no2(6, callClass, 3, 0, BLOCK, 1)
+                .ok2(BLOCK, 1, callClass, 3, 0, BLOCK, 0)
+                .play();
+        }
+    }
+
+    /** MEMOP 0, 1: from the BLOCK's beginning to LOW, of a BLOCK that is not the first. */
+    private static void breakEdges() {
+        int block = 4096 + 2048;
+        int[][] asks = {
+            {0, block}, {0, block - 1}, {0, block + 128}, {0, block + 129}, {1, 0}, {1, 1}, {1, -128}, {1, -1},
+            {1, 128}, {1, -129}, {1, Integer.MIN_VALUE}, {1, Integer.MAX_VALUE}, {0, 0}, {0, Integer.MIN_VALUE + block},
+            {0, 4096}, {0, 8192}, {1, -64}, {1, -block}};
+        int[] due = {block, -1, block + 128, -1, block + 128, -1, block, -1, block + 128, -1, -1, -1, -1, -1, -1, -1,
+            block + 64, -1};
+        Program second = new Program().need(128);
+        for (int[] ask : asks) {
+            second.call(5, ask[0], ask[1], 0, 0);
+        }
+        Program first = new Program().need(2048).call(6, 0, 0, 0, 0);
+        GrantKernel k = Program.booted(0, Program.CALL_WORDS, first, second, new Program().need(64).raw(0));
+        k.run(3);
+        int before = block + 64;
+        for (int i = 0; i < asks.length; i++) {
+            if (i > 0) {
+                k.run(1);
+            }
+            String name = "MEMOP " + asks[i][0] + " " + asks[i][1];
+            boolean done = due[i] >= 0;
+            Check.due(name + ": x10", k.register(1, 10), !done ? 0 : asks[i][0] == 0 ? 128 : 129);
+            Check.due(name + ": x11", k.register(1, 11), !done ? 9 : asks[i][0] == 0 ? asks[i][1] : before);
+            before = done ? due[i] : before;
+            Check.due(name + ": BREAK", k.look(1, 3), before);
+            Check.due(name + ": LOW", k.look(1, 4), block + 128);
+        }
+    }
+
+    /** GRANTS of 32, 48, 16, 8 octets: NO 9 if LOW would be one below the BREAK, by each way to need one. */
+    private static void grantThatJustFits() {
+        int[] octets = {32, 48, 16, 8};
+        for (int driver = 0; driver < 4; driver++) {
+            for (int callClass = 1; callClass <= 4; callClass++) {
+                int end = BLOCK + 256;
+                String name = "GRANT of DRIVER " + driver + " by class " + callClass;
+                Script s = new Script(name).ok(5, 0, end - octets[driver] + 1, 0, 0);
+                if (callClass == 2) {
+                    s.no(9, 2, driver, 99, 5, 6);
+                } else {
+                    s.no2(9, callClass, driver, 0, 0, 0);
+                }
+                s.look(4, end).look(11, 0).ok1(end - octets[driver] + 1, 5, 1, -1, 0, 0);
+                if (callClass == 2) {
+                    s.no(10, 2, driver, 99, 5, 6);
+                } else {
+                    s.ok2(0, 0, callClass, driver, 0, 0, 0);
+                }
+                s.look(4, end - octets[driver]).look(3, end - octets[driver]).look(11, 1 << driver)
+                    .no(9, 5, 1, 1, 0, 0).play();
+            }
+        }
+    }
+
+    private static void grantsOfTwo() {
+        Program first = new Program().need(128).call(2, 0, 1, 0, 0).loop();
+        Program second = new Program().need(128).call(2, 2, 3, 0, 0).loop();
+        GrantKernel k = Program.booted(0, Program.CALL_WORDS, first, second);
+        k.run(2);
+        Check.due("GRANTS of 0", k.look(0, 11), 1);
+        Check.due("LOW of 0", k.look(0, 4), 4096 + 128 - 32);
+        Check.due("GRANTS of 1", k.look(1, 11), 4);
+        Check.due("LOW of 1", k.look(1, 4), 4096 + 256 - 16);
+    }
+
+    /** 'for the first time since the PROCESS STARTED'. */
+    private static void grantAnew() {
+        Program p = new Program().need(64).call(2, 0, 1, 0, 0).call(2, 0, 1, 0, 0).call(6, 1, 0, 0, 0);
+        GrantKernel k = Program.booted(0, Program.CALL_WORDS, p);
+        for (int start = 1; start <= 3; start++) {
+            k.run(1);
+            Check.due("LOW, start " + start, k.look(0, 4), 4096 + 32);
+            k.run(1);
+            Check.due("LOW, the second time", k.look(0, 4), 4096 + 32);
+            k.run(1);
+            Check.due("LOW, STARTED again", k.look(0, 4), 4096 + 64);
+            Check.due("STARTED", k.look(0, 6), start + 1);
+        }
+    }
+
+    /** ECALL: the answer goes to x10 to x13; others stay. */
+    private static void othersStay() {
+        int[][] calls = {{0, 0, 0, 0, 0}, {1, 0, 0, 5, 5}, {1, 9, 0, 5, 5}, {2, 0, 1, 5, 5}, {2, 0, 2, 5, 5},
+            {2, 3, 1, 5, 5}, {3, 1, 0, 4096, 8}, {4, 1, 5, 4096, 8}, {5, 0, 4096, 0, 0}, {5, 1, 9, 0, 0},
+            {6, 2, 0, 0, 0}, {7, 0, 0, 0, 0}, {0, 1, 0, 0, 0}, {6, 0, 0, 0, 0}};
+        for (int[] c : calls) {
+            Program p = new Program();
+            for (int r = 1; r < 32; r++) {
+                p.raw(Program.addi(r, 0, 100 + r));
+            }
+            p.call(c[0], c[1], c[2], c[3], c[4]).loop();
+            GrantKernel k = Program.booted(0, 42, p);
+            k.run(1);
+            String name = "class " + c[0] + " " + c[1] + ": ";
+            Check.due(name + "x0", k.register(0, 0), 0);
+            for (int r = 1; r < 32; r++) {
+                if (r < 10 || r > 14) {
+                    Check.due(name + "x" + r, k.register(0, r), 100 + r);
+                }
+            }
+            Check.due(name + "x14", k.register(0, 14), c[0]);
+            Check.due(name + "PC goes on", k.register(0, 32), 20 + 4 * 42);
+        }
+    }
+
+    /** OK 128; OK1 v 129, v; OK2 v w 130, v, w; NO e 0, e; NO2 e v w 2, e, v, w; with numbers of all bits. */
+    private static void answersIntoTheFour() {
+        new Script("answers")
+            .call(2, 3, 0, -3, -4, 128)
+            .call(2, 3, 2, -3, -4, 128)
+            .call(2, 3, 1, -3, -5, 129, -4)
+            .call(1, 3, 0, -6, -7, 130, 0, 0)
+            .call(1, 3, 0, -8, -9, 130, -6, -7)
+            .call(2, 3, 3, -6, -7, 0, 1)
+            .call(3, 3, 1, -6, -7, 2, 6, -6, -7)
+            .call(4, -3, 1, -6, -7, 2, 11, -6, -7)
+            .play();
     }
 }
