@@ -1,4 +1,5 @@
 import java.util.ArrayList;
+import java.util.Arrays;
 import java.util.List;
 
 /** Assembles a program for the machine, HEADER and all. */
@@ -112,6 +113,19 @@ final class Program {
         return li(10, a).li(11, b).li(12, c).li(13, d).li(14, callClass).raw(ECALL);
     }
 
+    /** The same call in as few instructions as can be: each of them costs one of an object's 512 calls. */
+    Program ask(int callClass, int a, int b, int c, int d) {
+        int[] values = {a, b, c, d, callClass};
+        for (int i = 0; i < values.length; i++) {
+            if (values[i] >= -2048 && values[i] < 2048) {
+                raw(addi(10 + i, 0, values[i]));
+            } else {
+                li(10 + i, values[i]);
+            }
+        }
+        return raw(ECALL);
+    }
+
     Program loop() {
         return raw(jal(0, 0));
     }
@@ -121,13 +135,19 @@ final class Program {
         return new int[] {size, flags, need, entry, size ^ flags ^ need ^ entry};
     }
 
+    /** All of it, HEADER first. */
+    int[] words() {
+        int[] all = Arrays.copyOf(header(), size());
+        for (int i = 0; i < words.size(); i++) {
+            all[5 + i] = words.get(i);
+        }
+        return all;
+    }
+
     /** Writes it from WORD k on and answers the WORD behind it. */
     int into(GrantKernel kernel, int k) {
         int at = k;
-        for (int w : header()) {
-            kernel.flash(at++, w);
-        }
-        for (int w : words) {
+        for (int w : words()) {
             kernel.flash(at++, w);
         }
         return at;
