@@ -1,5 +1,3 @@
-import java.util.ArrayList;
-import java.util.List;
 import java.util.Random;
 
 /**
@@ -9,13 +7,13 @@ import java.util.Random;
 public final class ModelTest {
     private static final int RUNS = 1500;
     private static final int CALLS = 512;
-    private static final int[] FIRST_LOOKS = {5, 6, 7, 8, 9, 10, 11};
+    private static final int[] COUNTED = {5, 6, 7, 8, 9, 10, 11};
 
     private final Random random;
-    private final List<Call> calls = new ArrayList<>();
     private final GrantKernel kernel = new GrantKernel();
     private final Model model = new Model();
     private final String name;
+    private int asked = 0;
     private boolean same = true;
 
     private ModelTest(int seed) {
@@ -24,16 +22,16 @@ public final class ModelTest {
     }
 
     public static void main(String[] args) {
-        long[] seen = new long[FIRST_LOOKS.length];
+        long[] seen = new long[COUNTED.length];
         for (int seed = 0; seed < RUNS; seed++) {
             ModelTest run = new ModelTest(seed);
             run.all();
             for (int i = 0; i < seen.length; i++) {
-                seen[i] += run.sumOf(FIRST_LOOKS[i]);
+                seen[i] += run.sumOf(COUNTED[i]);
             }
         }
         for (int i = 0; i < seen.length; i++) {
-            Check.due("the runs come to much of look " + FIRST_LOOKS[i], seen[i] >= RUNS / 4, true);
+            Check.due("the runs come to much of look " + COUNTED[i], seen[i] >= RUNS / 4, true);
         }
         Check.done();
     }
@@ -57,25 +55,25 @@ public final class ModelTest {
         }
         ask("ways", random.nextInt(10), 1 + random.nextInt(50));
         ask("boot");
-        while (calls.size() < CALLS - 60) {
+        while (asked < CALLS - 60) {
             anything();
         }
-        while (calls.size() < CALLS) {
+        while (asked < CALLS) {
             question();
         }
     }
 
     private void ask(String call, int... numbers) {
-        if (calls.size() >= CALLS) {
+        if (asked >= CALLS) {
             return;
         }
         Call next = new Call(call, numbers);
-        calls.add(next);
+        asked++;
         String want = next.askedOf(model);
         String got = next.askedOf(kernel);
         if (same) {
             same = got.equals(want);
-            Check.due(name + ", call " + calls.size() + " " + next + " answered " + got + ", due is " + want
+            Check.due(name + ", call " + asked + " " + next + " answered " + got + ", due is " + want
                 + ": the same", same, true);
         }
     }
@@ -90,7 +88,7 @@ public final class ModelTest {
         p.raw(Program.addi(5, 5, 1), Program.jalr(0, 1, 0)).entryHere();
         int again = p.here();
         beginning(p, header + 20);
-        while (p.size() + 9 < most) {
+        while (p.size() + 11 < most) {
             action(p, header);
             if (random.nextInt(9) == 0) {
                 again = p.here();
@@ -111,49 +109,63 @@ public final class ModelTest {
     }
 
     private void action(Program p, int header) {
-        int handler = header + 20;
-        switch (random.nextInt(21)) {
+        switch (random.nextInt(12)) {
+            case 0:
+                p.raw(Program.sb(2, any(5, 12, 14), any(-9, -10, -11)), Program.sw(2, any(5, 12, 14), any(-12, -20)));
+                break;
+            case 1: p.raw(instruction()); break;
+            case 2: rare(p, header); break;
+            default: systemCall(p, header + 20); break;
+        }
+    }
+
+    /** x9 keeps a trace of the answer, which the next call would write over. */
+    private void systemCall(Program p, int handler) {
+        switch (random.nextInt(19)) {
             case 0: p.ask(1, 0, 0, handler, random.nextInt(90)); break;
             case 1: p.ask(1, 1, 1, handler, random.nextInt(90)); break;
             case 2: case 3: p.ask(1, 2, 0, handler, random.nextInt(90)); break;
-            case 4: p.ask(4, 1, 1, header + 20 + random.nextInt(20), random.nextInt(12)); break;
-            case 5: p.ask(4, 1, 1, 4096 + random.nextInt(90), random.nextInt(12)); break;
+            case 4: p.ask(4, 1, 1, handler + random.nextInt(20), random.nextInt(12)); break;
+            case 5: p.ask(any(4, 4, 3), 1, 1, 4096 + random.nextInt(90), random.nextInt(12)); break;
             case 6: case 7: p.ask(2, 1, 1, random.nextInt(12), 0); break;
-            case 8: p.ask(2, 0, any(2, 2, 2, 1, 3), random.nextInt(9), 0); break;
-            case 9: case 10: p.ask(2, 2, any(1, 1, 1, 2, 3), random.nextInt(4), 0); break;
-            case 11: p.ask(2, 3, 1 + random.nextInt(3), random.nextInt(3), random.nextInt(90)); break;
-            case 12: p.ask(2, 3, 2, random.nextInt(3), random.nextInt(90)); break;
-            case 13: case 14: case 18: case 19: p.ask(0, random.nextInt(2), 0, 0, 0); break;
-            case 15: p.ask(5, 1, any(-32, -16, -8, -3, 0, 3, 8, 16, 32), 0, 0); break;
-            case 16: rare(p, header); break;
-            case 17:
-                p.raw(Program.sb(2, any(5, 12, 14), any(-9, -10, -11)), Program.sw(2, any(5, 12, 14), any(-12, -20)));
-                break;
-            default: p.raw(instruction()); break;
+            case 8: case 9: p.ask(2, 0, any(2, 2, 2, 1, 3), random.nextInt(9), 0); break;
+            case 10: case 11: p.ask(2, 2, any(1, 1, 1, 2, 3), random.nextInt(4), 0); break;
+            case 12: case 13: p.ask(2, 3, any(1, 2, 2, 2, 3), random.nextInt(4), random.nextInt(90)); break;
+            case 14: p.ask(5, 1, any(-32, -16, -8, -3, 0, 3, 8, 16, 32), 0, 0); break;
+            case 15: manyKeys(p); break;
+            default: p.ask(0, random.nextInt(2), 0, 0, 0); break;
         }
+        p.raw(Program.typeR(32, 0, 9, any(10, 11), 9), Program.typeR(32, 0, 9, any(10, 11, 12, 13), 9));
+    }
+
+    /** Another key each time it comes here, so that the STORE fills up. */
+    private void manyKeys(Program p) {
+        p.raw(Program.addi(6, 6, 1), Program.typeI(0x13, 7, 12, 6, 7), Program.addi(13, 6, 0), Program.addi(10, 0, 3),
+            Program.addi(11, 0, any(1, 2, 2, 2, 3)), Program.addi(14, 0, 2), Program.ECALL);
     }
 
     /** What ends it, and what is refused. */
     private void rare(Program p, int header) {
-        switch (random.nextInt(6)) {
+        switch (random.nextInt(8)) {
             case 0: p.ask(6, 1, 0, 0, 0); break;
             case 1: p.ask(6, any(0, 2), 0, 0, 0); break;
             case 2: p.raw(any(0, Program.sw(2, 5, 0), Program.lw(5, 2, -2), Program.jalr(0, 11, 0))); break;
-            case 3: p.ask(5, random.nextInt(7), header, 0, 0); break;
+            case 3: case 4: p.ask(5, random.nextInt(7), any(header, 4096, 4100), 0, 0); break;
             default:
-                p.ask(random.nextInt(8), random.nextInt(5), random.nextInt(4), any(0, 1, 4096, header, -1),
+                p.ask(random.nextInt(8), any(-1, 0, 1, 2, 3, 4), any(-1, 0, 1, 2, 3, 4), any(0, 1, 4096, header, -1),
                     any(0, 1, 5, -1));
                 break;
         }
+        p.raw(Program.typeR(32, 0, 9, 10, 9), Program.typeR(32, 0, 9, 11, 9));
     }
 
     private int instruction() {
-        int opcode = any(0x13, 0x13, 0x33, 0x33, 0x33, 0x17, 0x37);
-        int f7 = opcode == 0x33 ? any(0, 1, 1) : 0;
         if (random.nextInt(6) == 0) {
             return Program.load(random.nextInt(6), any(5, 6, 7, 8), 2, any(-8, -16, -20));
         }
-        return Program.typeR(f7, random.nextInt(8), any(5, 6, 7, 8), any(2, 5, 6, 7, 8, 12), any(5, 6, 7, 8)) & ~127
+        int opcode = any(0x13, 0x13, 0x33, 0x33, 0x33, 0x17, 0x37);
+        int f7 = opcode == 0x33 ? any(0, 1, 1) : 0;
+        return Program.typeR(f7, random.nextInt(8), any(5, 6, 7, 8), any(2, 5, 6, 7, 8, 9), any(5, 6, 7, 8)) & ~127
             | opcode;
     }
 
@@ -178,7 +190,7 @@ public final class ModelTest {
         }
     }
 
-    /** Halted it is asked on, a WORD is another (and a HEADER none any more, or one of no PROCESS), and it is booted. */
+    /** Halted it is asked on, a WORD of FLASH is another, or the first HEADER one of no PROCESS; then it is booted. */
     private void haltAndChange() {
         ask("halt");
         question();
@@ -221,9 +233,11 @@ public final class ModelTest {
 
     private void question() {
         switch (random.nextInt(8)) {
-            case 0: case 1: ask("register", random.nextInt(4), any(1, 2, 5, 6, 7, 8, 10, 11, 12, 13, 14, 32)); break;
+            case 0: case 1: ask("register", random.nextInt(4), any(1, 5, 6, 7, 8, 9, 9, 10, 11, 12, 13, 32)); break;
             case 2: ask("register", random.nextInt(4), random.nextInt(33)); break;
-            case 3: ask("word", random.nextInt(6) == 0 ? 4 * random.nextInt(512) : 4096 + 4 * random.nextInt(1024)); break;
+            case 3:
+                ask("word", random.nextInt(6) == 0 ? 4 * random.nextInt(512) : 4096 + 4 * random.nextInt(1024));
+                break;
             case 4: case 5: ask("look", random.nextInt(4), random.nextInt(12)); break;
             case 6: ask("console", random.nextInt(34)); break;
             default: ask("count", random.nextInt(7)); break;

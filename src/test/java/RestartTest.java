@@ -1,6 +1,6 @@
 /**
- * A PROCESS that STARTS again, by a FAULT below the POLICY or by EXIT 1, with UPCALLS queued, an alarm set, octets still
- * to be written, BUTTONS wanted and keys in the STORE.
+ * A PROCESS that STARTS again, by a FAULT below the POLICY or by EXIT 1, with UPCALLS queued, an alarm set, octets
+ * still to be written, BUTTONS wanted and keys in the STORE.
  */
 public final class RestartTest {
     private static final int HANDLER = Program.HEADER_OCTETS;
@@ -245,7 +245,7 @@ public final class RestartTest {
         Check.due("row", k.count(4), 0);
     }
 
-    /** One that STARTS again while it is the first of the row is its last when it writes again, from its first octet. */
+    /** The first of the row STARTS again: when it writes again it is the last, and begins with its first octet. */
     private static void backBehindTheOthers() {
         Program first = writer(0).ask(6, 1, 0, 0, 0);
         int second = 4 * first.size();

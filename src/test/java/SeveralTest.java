@@ -1,6 +1,6 @@
 /**
- * Several PROCESSES at once in the CONSOLE's row, with alarms at the same TICK and the same BUTTON wanted: promises 7 and
- * 8 with the DRIVERS, over a run.
+ * Several PROCESSES at once in the CONSOLE's row, with alarms at the same TICK and the same BUTTON wanted: promises 7
+ * and 8 with the DRIVERS, over a run.
  */
 public final class SeveralTest {
     private static final int LOOPS = 0, YIELDS = 1, WANTS_2 = 2, EXITS = 3;

@@ -1,6 +1,6 @@
 /**
- * TURNS that go round about among PROCESSES of which some are not READY, over several calls of run, with SLICE and POLICY
- * changed by ways between them.
+ * TURNS that go round about among PROCESSES of which some are not READY, over several calls of run, with SLICE and
+ * POLICY changed by ways between them.
  */
 public final class TurnsTest {
     public static void main(String[] args) {
