@@ -386,7 +386,8 @@ public final class InstructionsTest {
         for (int a : values) {
             for (int i = 0; i < by.length; i++) {
                 boolean far = low[i] == 31;
-                Check.due("sll " + a + ", " + by[i], of(0, 1, a, by[i]), far ? (a % 2 != 0 ? Integer.MIN_VALUE : 0) : a);
+                int shiftedLeft = a % 2 != 0 ? Integer.MIN_VALUE : 0;
+                Check.due("sll " + a + ", " + by[i], of(0, 1, a, by[i]), far ? shiftedLeft : a);
                 Check.due("srl " + a + ", " + by[i], of(0, 5, a, by[i]), far ? (a < 0 ? 1 : 0) : a);
                 Check.due("sra " + a + ", " + by[i], of(32, 5, a, by[i]), far ? (a < 0 ? -1 : 0) : a);
             }

@@ -6,26 +6,28 @@ import java.util.Random;
  * what the terms say of every state holds.
  */
 public final class RandomRunsTest {
-    private static final int RUNS = 1500;
-    // with the looks behind each of them an object stays within its 512 calls
-    private static final int CALLS = 15;
+    private static final int RUNS = 3000;
+    private static final int MOST_CALLS = 512;
+    /** One call and all that states() asks behind it, with four PROCESSES. */
+    private static final int ROUND = 1 + 3 + 4 * 10;
 
     public static void main(String[] args) {
         for (int seed = 0; seed < RUNS; seed++) {
             Random random = new Random(seed);
             GrantKernel k = new GrantKernel();
-            fill(k, random);
+            int calls = fill(k, random) + 2;
             k.ways(random.nextInt(10), 1 + random.nextInt(50));
             k.boot();
-            for (int i = 0; i < CALLS; i++) {
+            for (; calls + ROUND <= MOST_CALLS; calls += ROUND) {
                 anyCall(k, random);
-                states(k, "seed " + seed + ", call " + i);
+                states(k, "seed " + seed + ", call " + calls);
             }
         }
         Check.done();
     }
 
-    private static void fill(GrantKernel k, Random random) {
+    /** Answers how many calls that took. */
+    private static int fill(GrantKernel k, Random random) {
         int at = 0;
         for (int i = 0; i < 1 + random.nextInt(5); i++) {
             Program p = new Program().need(64 + 16 * random.nextInt(30)).flags(random.nextInt(5) == 0 ? 2 : 1);
@@ -34,10 +36,11 @@ public final class RandomRunsTest {
                 someCode(p, random, 4 * at);
             }
             p.raw(Program.jal(0, 20 - p.here()));
-            if (at + p.size() <= 512) {
+            if (at + p.size() <= 300) {
                 at = p.into(k, at);
             }
         }
+        return at;
     }
 
     private static void someCode(Program p, Random random, int header) {
